@@ -35,7 +35,7 @@ public final class TableSplice {
     public TableSplice() {
     }
 
-    // ---- filling the base and the sides
+    // ---- filling the base and the sides: eight calls that fill or set
 
     public int addColumn(int table, int column, int name)
             throws IndexOutOfBoundsException, IllegalArgumentException, IllegalStateException {
@@ -351,9 +351,7 @@ public final class TableSplice {
         }
         boolean renamedByTheirsAlone = theirs.renamedColumnOf(base, column)
                 && !ours.renamedColumnOf(base, column);
-        return theirs.hasColumn(column) && renamedByTheirsAlone
-                ? theirs.nameAt(column)
-                : ours.nameAt(column);
+        return renamedByTheirsAlone ? theirs.nameAt(column) : ours.nameAt(column);
     }
 
     /** For a column that both sides have. */
@@ -405,7 +403,7 @@ public final class TableSplice {
         if (!base.hasRow(key)) {
             return inOurs || inTheirs;
         }
-        return ours.changedRowOf(base, key) || theirs.changedRowOf(base, key);
+        return ours.countCellsChanged(base, key) > 0 || theirs.countCellsChanged(base, key) > 0;
     }
 
     // ---- merging cells
@@ -419,16 +417,17 @@ public final class TableSplice {
     }
 
     private void mergeCell(int key, int column) {
-        if (!merged.hasCell(key, column)) {
+        if (!isColumnNumber(column) || !merged.hasCell(key, column)) {
             return;
         }
-        merged.putCell(key, column, mergedCell(key, column, rules[column]));
-        if (rules[column] == RULE_CONFLICT && cellsAreUnlike(key, column)) {
+        boolean unlike = cellsAreUnlike(key, column);
+        merged.putCell(key, column, mergedCell(key, column, rules[column], unlike));
+        if (unlike && rules[column] == RULE_CONFLICT) {
             list.append(CELL_AT_ODDS, key, column);
         }
     }
 
-    private int mergedCell(int key, int column, int rule) {
+    private int mergedCell(int key, int column, int rule, boolean unlike) {
         int o = ours.cellAt(key, column);
         int t = theirs.cellAt(key, column);
         if (!ours.hasCell(key, column)) {
@@ -441,7 +440,7 @@ public final class TableSplice {
         if (rule == RULE_SUM) {
             return o + t - b;
         }
-        if (cellsAreUnlike(key, column)) {
+        if (unlike) {
             return rule == RULE_GREATER ? Math.max(o, t) : o;
         }
         return base.hasCell(key, column) && o == b ? t : o;
@@ -491,7 +490,7 @@ public final class TableSplice {
         if (side.hasRow(key) == base.hasRow(key)) {
             return soFar;
         }
-        return side.hasRow(key) || soFar && other.changedRowOf(base, key);
+        return side.hasRow(key) || soFar && other.countCellsChanged(base, key) > 0;
     }
 
     private boolean columnStaysByChanges(int column) {
@@ -571,11 +570,11 @@ public final class TableSplice {
         private final int[] cells = new int[ROW_COUNT * COLUMN_COUNT];
 
         private boolean hasColumn(int column) {
-            return isColumnNumber(column) && (columnSet & (1 << column)) != 0;
+            return column >= 0 && column < COLUMN_COUNT && (columnSet & (1 << column)) != 0;
         }
 
         private boolean hasRow(int key) {
-            return isKey(key) && (rowSet & (1 << key)) != 0;
+            return key >= 0 && key < ROW_COUNT && (rowSet & (1 << key)) != 0;
         }
 
         private boolean hasCell(int key, int column) {
@@ -663,8 +662,9 @@ public final class TableSplice {
         }
 
         private boolean changedCellOf(Table origin, int key, int column) {
+            int at = key * COLUMN_COUNT + column;
             return hasCell(key, column) && origin.hasCell(key, column)
-                    && cellAt(key, column) != origin.cellAt(key, column);
+                    && cells[at] != origin.cells[at];
         }
 
         private boolean addedOrChangedCellOf(Table origin, int key, int column) {
@@ -687,10 +687,6 @@ public final class TableSplice {
                 }
             }
             return false;
-        }
-
-        private boolean changedRowOf(Table origin, int key) {
-            return countCellsChanged(origin, key) > 0;
         }
 
         private int countCellsChanged(Table origin, int key) {

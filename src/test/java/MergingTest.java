@@ -86,6 +86,7 @@ public final class MergingTest {
             Check.due("merge: changed and dropped", y.merge(), 1);
             Check.dueList("merge: changed and dropped", y, "3:-1:0");
             Check.due("merge: changed and dropped: cell", y.get(3, 9, 0), 5);
+            Check.due("changes: changed and dropped", y.cellByChanges(9, 0), 5);
 
             TableSplice z = Filled.forked(1, 0);
             z.dropColumn(3 - side, 0);
@@ -118,6 +119,7 @@ public final class MergingTest {
             Check.due("merge: changed and removed", x.merge(), 1);
             Check.dueList("merge: changed and removed", x, "2:4:-1");
             Check.due("merge: changed and removed: cell", x.get(3, 4, 1), 5);
+            Check.due("changes: changed and removed", x.cellByChanges(4, 1), 5);
 
             TableSplice y = Filled.forked(1, 4);
             y.removeRow(3 - side, 4);
@@ -354,6 +356,14 @@ public final class MergingTest {
         x.removeRow(2, 0);
         Check.due("changes: removed by both", x.cellByChanges(0, 0), 0);
         Check.due("changes: never there", x.cellByChanges(23, 7), 0);
+        for (int side = 1; side <= 2; side++) {
+            TableSplice y = Filled.oneCell(0, 5, 5, 5);
+            y.dropColumn(side, 0);
+            Check.due("changes: dropped by one", y.cellByChanges(0, 0), 0);
+            TableSplice z = Filled.oneCell(0, 5, 5, 5);
+            z.removeRow(side, 0);
+            Check.due("changes: removed by one", z.cellByChanges(0, 0), 0);
+        }
         Check.throwsOut("cellByChanges(24, 0)", () -> x.cellByChanges(24, 0));
         Check.throwsOut("cellByChanges(-1, 0)", () -> x.cellByChanges(-1, 0));
         Check.throwsOut("cellByChanges(0, 8)", () -> x.cellByChanges(0, 8));
