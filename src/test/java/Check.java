@@ -22,6 +22,14 @@ final class Check {
         due(what, got ? 1 : 0, want ? 1 : 0);
     }
 
+    static void due(String what, String got, String want) {
+        asked++;
+        if (!got.equals(want)) {
+            wrong++;
+            System.out.println(what + " answered [" + got + "], due is [" + want + "]");
+        }
+    }
+
     /** The exception must be of that very class: the machine throws classes below it. */
     static void throwsOut(String what, Call call) {
         dueThrow(what, call, IndexOutOfBoundsException.class);
