@@ -171,32 +171,34 @@ final class ForkSentences {
             {0, -9999, 9999}, {9999, -9999, -9998}};
         for (int rule = 0; rule <= 3; rule++) {
             for (int[] bot : numbers) {
-                TableSplice x = new TableSplice();
-                x.setRule(7, rule);
-                for (int table = 0; table <= 2; table++) {
-                    fillCorner(x, table, (rowsHad >> table & 1) == 1,
-                            (columnsHad >> table & 1) == 1, bot[table]);
+                for (int[] edge : numbers) {
+                    TableSplice x = new TableSplice();
+                    x.setRule(7, rule);
+                    for (int table = 0; table <= 2; table++) {
+                        fillCorner(x, table, (rowsHad >> table & 1) == 1,
+                                (columnsHad >> table & 1) == 1, bot[table], edge[table]);
+                    }
+                    int found = x.cellByChanges(23, 7);
+                    x.merge();
+                    Check.due(what + " rows " + rowsHad + ", columns " + columnsHad + ", rule "
+                            + rule, found, mergedOr0(x, 23, 7));
                 }
-                int found = x.cellByChanges(23, 7);
-                x.merge();
-                Check.due(what + " rows " + rowsHad + ", columns " + columnsHad + ", rule " + rule,
-                        found, mergedOr0(x, 23, 7));
             }
         }
     }
 
-    /** With the row 0 and the column 0, by which what is dropped may be a change all the same. */
+    /** With edges in the row 0 and the column 0, by which a row or column may be kept, too. */
     private static void fillCorner(TableSplice x, int table, boolean row, boolean column,
-            int cell) {
+            int cell, int edge) {
         x.addRow(table, 0);
         x.addColumn(table, 0, 5);
         if (row) {
             x.addRow(table, 23);
-            x.set(table, 23, 0, cell);
+            x.set(table, 23, 0, edge);
         }
         if (column) {
             x.addColumn(table, 7, 6);
-            x.set(table, 0, 7, cell);
+            x.set(table, 0, 7, edge);
         }
         if (row && column) {
             x.set(table, 23, 7, cell);

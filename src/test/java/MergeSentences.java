@@ -124,13 +124,12 @@ final class MergeSentences {
                         + ", 7, 5)", "set(" + side + ", 23, 0, -9999)", "set(" + side
                         + ", 23, 7, 9999)", "merge() = 0; get(3, 23, 0|7) = -9999|9999",
                         "get(3, 0, 7) = 0; get(3, 23, 1) = 0");
-                // the base has the cell, too, but the other side does not
-                sentence.run(States.FORKED, set, "set(0, 1, 1, 6); set(" + side + ", 1, 1, 9)",
-                        "removeRow(" + (3 - side) + ", 1); merge() = 1; get(3, 1, 1) = 9",
-                        "cellByChanges(1, 1) = 9");
-                sentence.run(States.FORKED, set, "set(0, 1, 1, 6); set(" + side + ", 1, 1, 9)",
-                        "dropColumn(" + (3 - side) + ", 1); merge() = 1; get(3, 1, 1) = 9",
-                        "cellByChanges(1, 1) = 9");
+                // the base has the cells, too, but the other side does not; one stayed, one changed
+                String changed = "set(0..2, 0..1, 0..1, 6); set(" + side + ", 1, 1, 9);";
+                sentence.run(States.FORKED, set, changed, "removeRow(" + (3 - side) + ", 1)",
+                        "cellByChanges(1, 0..1) = 6|9; merge() = 1; get(3, 1, 0..1) = 6|9");
+                sentence.run(States.FORKED, set, changed, "dropColumn(" + (3 - side) + ", 1)",
+                        "cellByChanges(0..1, 1) = 6|9; merge() = 1; get(3, 0..1, 1) = 6|9");
             }
         }
     }

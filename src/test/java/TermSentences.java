@@ -68,8 +68,8 @@ final class TermSentences {
                 + " settle conflicts.")
                 .run(States.FORKED, "set(1, 0, 0, 1); set(2, 0, 0, 2); merge() = 1; list = 1:0:0",
                         "settle(0, 2) = 0; get(3, 0, 0) = 2; accept() = 4; get(0, 0, 0) = 2");
-        Document.Sentence sentence = terms.says("A call that throws an exception changes nothing; if"
-                + " several exceptions apply, the one that its throws clause names first is"
+        Document.Sentence sentence = terms.says("A call that throws an exception changes nothing;"
+                + " if several exceptions apply, the one that its throws clause names first is"
                 + " thrown.")
                 .runInEach(States.ALL, REFUSED)
                 .runInEach(States.FILLED, "addColumn(0..1, 0, 5) ! state; addRow(0..1, 0) ! state",
