@@ -96,7 +96,7 @@ final class ConflictSentences {
                 .run(States.AT_ODDS, "settle(3, 2) = 5; open() = 5; get(3, 0, 2) = 4")
                 // the tables that are merged stay
                 .run(States.AT_ODDS, "settle(0..5, 2); columns(0..2) = 15|15|14",
-                        "rows(0..2) = 3|1|3; get(0, 0, 2) = 0; get(1, 0, 2) = 3; name(0..2, 1) = 11|51|52");
+                        "rows(0..2) = 3|1|3; get(0..1, 0, 2) = 0|3; name(0..2, 1) = 11|51|52");
         sidesOfEachKind(promise.says("For the kind 1 the cell becomes that of the side, for the"
                 + " kind 4 the name becomes that of the side; for the kinds 2 and 3 the row or"
                 + " the column stays if the side has it, and is removed from the merged table"
