@@ -195,7 +195,9 @@ final class FillSentences {
                 .run(States.FORKED, "set(0, 1, 1, -9999|9999) = 0|-9999; get(0, 1, 1) = 9999",
                         "set(0, 1, 1, -10000|10000|MIN|MAX) ! argument");
         promise.says("Returns the number before.")
-                .run(States.FORKED, "set(0, 1, 1, 9999|-9999|-9999|0|0) = 0|9999|-9999|-9999|0");
+                .run(States.FORKED, "set(0, 1, 1, 9999|-9999|-9999|0|0) = 0|9999|-9999|-9999|0")
+                .run(States.FULL_BASE, "set(0, 0|3|23, 0|3|7, 1+#) = 0",
+                        "set(0, 0|3|23, 0|3|7, 5) = 1+#");
         promise.says("Throws `IndexOutOfBoundsException` if there is no such table, or it does not"
                 + " have the row or the column")
                 .runInEach(States.ALL, "set(" + NO_TABLE + ", 0|6, 0|6, 5) ! out",
