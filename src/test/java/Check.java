@@ -1,16 +1,19 @@
-/** Compares answers with what is due, prints what is wrong, and ends the test. */
-final class Check {
+/**
+ * Compares answers with what is due, prints what is wrong, and ends the test. What README.md's
+ * example asks of it is public: ReadmeTest loads that with a loader of its own.
+ */
+public final class Check {
     private static int wrong = 0;
     private static int asked = 0;
 
-    interface Call {
+    public interface Call {
         long answer();
     }
 
     private Check() {
     }
 
-    static void due(String what, long got, long want) {
+    public static void due(String what, long got, long want) {
         asked++;
         if (got != want) {
             wrong++;
@@ -18,7 +21,7 @@ final class Check {
         }
     }
 
-    static void due(String what, boolean got, boolean want) {
+    public static void due(String what, boolean got, boolean want) {
         due(what, got ? 1 : 0, want ? 1 : 0);
     }
 
@@ -31,15 +34,15 @@ final class Check {
     }
 
     /** The exception must be of that very class: the machine throws classes below it. */
-    static void throwsOut(String what, Call call) {
+    public static void throwsOut(String what, Call call) {
         dueThrow(what, call, IndexOutOfBoundsException.class);
     }
 
-    static void throwsArgument(String what, Call call) {
+    public static void throwsArgument(String what, Call call) {
         dueThrow(what, call, IllegalArgumentException.class);
     }
 
-    static void throwsState(String what, Call call) {
+    public static void throwsState(String what, Call call) {
         dueThrow(what, call, IllegalStateException.class);
     }
 
@@ -70,6 +73,10 @@ final class Check {
             wrong++;
             System.out.println(what + " lists [" + got + "], due is [" + want + "]");
         }
+    }
+
+    static int askedSoFar() {
+        return asked;
     }
 
     static int wrongSoFar() {

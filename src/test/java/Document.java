@@ -11,7 +11,7 @@ import java.util.Map;
  * quote that the document does not say is wrong, and so is a sentence that no test quotes.
  */
 final class Document {
-    private static final Path FILE = Path.of("..", "shared", "DOC.md");
+    static final Path FILE = Path.of("..", "shared", "DOC.md");
     private static final String NOT_PROMISED = "Not promised";
 
     /** The sentences of each section that no test has quoted yet. */
@@ -46,6 +46,11 @@ final class Document {
     Section section(String title) {
         Check.due("the document has a section '" + title + "'", left.containsKey(title), true);
         return new Section(title);
+    }
+
+    /** The sentences by the titles of their sections; all of them, before a test quotes any. */
+    Map<String, List<String>> unquoted() {
+        return left;
     }
 
     void dueAllQuoted() {
